@@ -51,19 +51,17 @@ public final class HonestScales {
     private static final int COMPLAIN_VERB = 4;
     private static final int OPEN_VERB = 5;
 
-    private final Bureau now = new Bureau();
+    private final Parser parser = new Parser();
+    private final Input input = parser.input;
+    private final Bureau now;
     // For setups that may turn out wrong, and for days that are only foreseen.
     private final Bureau spare = new Bureau();
     private final History history = new History();
     private final Bureau[] snapshots = new Bureau[SLOT_COUNT];
-    private final Parser parser = new Parser();
-    private final Input input = parser.input;
     private final StringBuilder output = new StringBuilder();
 
     public HonestScales() {
-        input.putText(FIRST_SETUP);
-        parser.readSetup(now);
-        input.length = 0;
+        now = parser.readFirstSetup();
     }
 
     // ---- input
@@ -454,7 +452,7 @@ public final class HonestScales {
             if (!asked.open) {
                 return days;
             }
-            spare.passDay();
+            spare.passMany(1);
         }
         return NONE;
     }
@@ -781,26 +779,19 @@ public final class HonestScales {
             return rank;
         }
 
+        /** Answers how many visits the inspectors made. */
         int passMany(int days) {
             int made = 0;
             for (int i = 0; i < days; i++) {
-                made += passDay();
-            }
-            return made;
-        }
-
-        /** Answers how many visits the inspectors made. */
-        int passDay() {
-            beginDay();
-            trade();
-            int made = 0;
-            while (made < inspectors) {
-                int chosen = chooseShop();
-                if (chosen == NONE) {
-                    return made;
+                beginDay();
+                trade();
+                for (int sent = 0; sent < inspectors; sent++) {
+                    int chosen = chooseShop();
+                    if (chosen != NONE) {
+                        inspect(shops[chosen]);
+                        made++;
+                    }
                 }
-                inspect(shops[chosen]);
-                made++;
             }
             return made;
         }
@@ -1022,34 +1013,25 @@ public final class HonestScales {
         }
 
         void readNext() {
+            while (end < length && bytes[end] == ' ') {
+                end++;
+            }
             start = end;
-            while (start < length && bytes[start] == ' ') {
-                start++;
-            }
-            end = start;
-            if (start >= length) {
-                kind = END_TOKEN;
-            } else if (isLetter(bytes[start])) {
-                readWord();
-            } else if (isDigit(bytes[start])) {
+            kind = end < length ? kindOf(bytes[end]) : END_TOKEN;
+            if (kind == WORD_TOKEN) {
+                while (end < length && kindOf(bytes[end]) == WORD_TOKEN) {
+                    end++;
+                }
+            } else if (kind == NUMBER_TOKEN) {
                 readNumber();
-            } else {
-                kind = bytes[start] == ';' ? SEMICOLON_TOKEN : STRANGE_TOKEN;
-                end = start + 1;
-            }
-        }
-
-        void readWord() {
-            kind = WORD_TOKEN;
-            while (end < length && isLetter(bytes[end])) {
+            } else if (kind != END_TOKEN) {
                 end++;
             }
         }
 
         void readNumber() {
-            kind = NUMBER_TOKEN;
             value = 0;
-            while (end < length && isDigit(bytes[end])) {
+            while (end < length && bytes[end] >= '0' && bytes[end] <= '9') {
                 if (value < LARGE) {
                     value = 10 * value + bytes[end] - '0';
                 }
@@ -1057,12 +1039,15 @@ public final class HonestScales {
             }
         }
 
-        boolean isLetter(byte one) {
-            return one >= 'a' && one <= 'z';
-        }
-
-        boolean isDigit(byte one) {
-            return one >= '0' && one <= '9';
+        /** The kind of the token that a byte belongs to. */
+        int kindOf(byte one) {
+            if (one >= 'a' && one <= 'z') {
+                return WORD_TOKEN;
+            }
+            if (one >= '0' && one <= '9') {
+                return NUMBER_TOKEN;
+            }
+            return one == ';' ? SEMICOLON_TOKEN : STRANGE_TOKEN;
         }
 
         boolean isWord(String word) {
@@ -1086,6 +1071,15 @@ public final class HonestScales {
         int number;
         int code;
         int position;
+
+        /** Leaves the buffer empty and no error reported, as a new object has them. */
+        Bureau readFirstSetup() {
+            Bureau bureau = new Bureau();
+            input.putText(FIRST_SETUP);
+            readSetup(bureau);
+            input.length = 0;
+            return bureau;
+        }
 
         boolean readSetup(Bureau bureau) {
             start();
