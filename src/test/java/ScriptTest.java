@@ -117,7 +117,7 @@ public final class ScriptTest {
             for (String token : new String[] {"days", "visit", "repair", "thumb", "complain", "open"}) {
                 misplaced(text, token, kinds[i].contains("verb"));
             }
-            for (String token : new String[] {"shop", "day", "dayss", "opem", "reopen", "Days", "-", "\u00e4", "\0", "\n"}) {
+            for (String token : new String[] {"shop", "day", "dayss", "daysz", "visita", "opem", "z", "reopen", "Days", "-", "\u00e4", "\0", "\n"}) {
                 misplaced(text, token, false);
             }
             misplaced(text, "0", kinds[i].contains("n/") || kinds[i].equals("n"));

@@ -48,7 +48,10 @@ public final class SetupTest {
 
     private static void loadSetupReplacesTheState() {
         HonestScales x = new HonestScales();
-        x.passDays(30);
+        x.setInspectors(0);
+        Check.due("a past to forget", Check.script(x, "days 30;visit 0;visit 1;days 30;visit 0;complain 0;complain 1;"), 7);
+        // A question about the days to come must leave nothing behind in the next setup either.
+        x.purseAfter(0, 20);
         Check.feed(x, "bureau 50 49 99 98 50 3 65536; weights 5000 1 4999 2; shop 9999 1000 100 10 5000 50 100 30; shop 0 0 0 0 1 0 0 0;");
         Check.due("loadSetup", x.loadSetup(), 2);
         Check.due("the buffer is empty", x.append(0, 0, 0, 0, 0), 20);
@@ -151,7 +154,7 @@ public final class SetupTest {
         String[] tokens = (HEAD + " weights 100 200;" + SHOP + SHOP).replace(";", " ; ").trim().split(" +");
         String shop = " n n n n n n n n ; shop/end";
         String[] allowed = ("bureau n n n n n n n ; weights n n/; n/; shop" + shop + shop).split(" ");
-        String[] words = {"bureau", "weights", "shop", "shops", "sho", "hop", "shox", "days"};
+        String[] words = {"bureau", "weights", "shop", "shops", "shopz", "shopa", "sho", "hop", "shox", "days", "z"};
         String[] strange = {"-1", "\u00e4", "\0", ",", "\n", "\t", "B", "`", "{", "/", ":", "\u00e2"};
         String text = "";
         for (int i = 0; i < allowed.length; i++) {
