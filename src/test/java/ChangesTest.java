@@ -334,17 +334,17 @@ public final class ChangesTest {
     private static void undoGoesBackEightChanges() {
         HonestScales x = new HonestScales();
         Check.dueThrow("undo", Check.ELEMENT, x::undo);
-        String[] states = new String[21];
         for (int i = 0; i <= 20; i++) {
-            states[i] = Check.state(x);
             x.passDays(3);
         }
         for (int left = 7; left >= 0; left--) {
             Check.due("undo", x.undo(), left);
-            Check.due("the state before change " + (13 + left), Check.state(x), states[13 + left]);
+            Check.due("day", x.day(), 3 * (13 + left));
         }
         Check.dueThrow("undo", Check.ELEMENT, x::undo);
-        Check.due("the state stays", Check.state(x), states[13]);
+        HonestScales y = new HonestScales();
+        y.passDays(39);
+        Check.due("the state stays", Check.state(x), Check.state(y));
     }
 
     private static void undoAfterUndo() {
@@ -368,30 +368,37 @@ public final class ChangesTest {
     }
 
     private static void everyChangeIsUndoable() {
+        undoes("passDays", x -> x.passDays(1));
+        undoes("visit", x -> x.visit(0));
+        undoes("repair", x -> x.repair(0));
+        undoes("setThumb", x -> x.setThumb(0, 20));
+        undoes("complain", x -> x.complain(0));
+        undoes("reopen", x -> x.reopen(2));
+        undoes("setInspectors", x -> x.setInspectors(0));
+        undoes("setFee", x -> x.setFee(4));
+        undoes("restoreSnapshot", x -> x.restoreSnapshot(0));
+        undoes("runScript", x -> Check.script(x, "days 1;complain 0;"));
+        undoes("an empty script", x -> Check.script(x, ""));
+        undoes("loadSetup", x -> {
+            Check.feed(x, "bureau 0 0 0 1 1 0 0;weights 1;shop 0 500 50 5 1 0 0 0;");
+            return x.loadSetup();
+        });
+    }
+
+    private interface Change {
+        Object make(HonestScales x);
+    }
+
+    /** On an object with a closed shop and a snapshot. */
+    private static void undoes(String what, Change change) {
         HonestScales x = new HonestScales();
         x.setInspectors(0);
         Check.script(x, "days 20;visit 2;days 20;visit 2;days 20;visit 2;");
         x.saveSnapshot(0);
-        undoes(x, "passDays", () -> x.passDays(1));
-        undoes(x, "visit", () -> x.visit(0));
-        undoes(x, "repair", () -> x.repair(0));
-        undoes(x, "setThumb", () -> x.setThumb(0, 20));
-        undoes(x, "complain", () -> x.complain(0));
-        undoes(x, "reopen", () -> x.reopen(2));
-        undoes(x, "setInspectors", () -> x.setInspectors(0));
-        undoes(x, "setFee", () -> x.setFee(4));
-        undoes(x, "restoreSnapshot", () -> x.restoreSnapshot(0));
-        undoes(x, "runScript", () -> Check.script(x, "days 1;complain 0;"));
-        undoes(x, "an empty script", () -> Check.script(x, ""));
-        Check.feed(x, "bureau 0 0 0 1 1 0 0;weights 1;shop 0 500 50 5 1 0 0 0;");
-        undoes(x, "loadSetup", x::loadSetup);
-    }
-
-    private static void undoes(HonestScales x, String what, Check.Call call) {
         String before = Check.state(x);
         x.complain(1);
         String between = Check.state(x);
-        call.run();
+        change.make(x);
         x.undo();
         Check.due("the state before " + what, Check.state(x), between);
         x.undo();

@@ -14,12 +14,23 @@ final class Check {
 
     private static int made = 0;
     private static int wrong = 0;
+    private static String about = "";
+
+    /** What stands before each wrong answer from now on. */
+    static void about(String words) {
+        about = words;
+    }
+
+    /** The number of checks up to now. */
+    static int made() {
+        return made;
+    }
 
     static void due(String what, Object got, Object want) {
         made++;
         if (!want.equals(got)) {
             wrong++;
-            System.out.println(what + " answered " + got + ", due is " + want);
+            System.out.println(about + what + " answered " + got + ", due is " + want);
         }
     }
 
@@ -36,7 +47,7 @@ final class Check {
             got = e.getClass().getName();
         }
         wrong++;
-        System.out.println(what + " gave " + got + ", due is " + want.getName());
+        System.out.println(about + what + " gave " + got + ", due is " + want.getName());
     }
 
     /** For the methods with a shop as their only argument. */

@@ -10,7 +10,8 @@ import java.util.Random;
 /** All promises together: long runs of calls, the same ones each time, compared with the oracle. */
 public final class OracleTest {
     private static final int RUNS = 1500;
-    private static final int CALLS = 500;
+    // With the text that the last of these may begin, an object is not used for more than 512.
+    private static final int CALLS = 475;
     private static final List<String> DEAR = List.of("bestThumb", "daysUntilClosed", "purseAfter", "loadSetup", "undo");
 
     private static Method[] methods;
@@ -135,7 +136,7 @@ public final class OracleTest {
         for (int i = 0; i < commands; i++) {
             String verb = verbs[random.nextInt(verbs.length)];
             text.append(verb).append(random.nextBoolean() ? " " : "");
-            text.append(verb.equals("days") ? 1 + random.nextInt(random.nextInt(4) == 0 ? 100 : 9) : random.nextInt(mine.shopCount()));
+            text.append(verb.equals("days") ? 1 + random.nextInt(random.nextInt(4) == 0 ? 100 : 9) : random.nextInt(other.shopCount()));
             text.append(verb.equals("thumb") ? " " + random.nextInt(101) : "").append(';');
         }
         return text.toString();

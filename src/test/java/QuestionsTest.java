@@ -163,21 +163,22 @@ public final class QuestionsTest {
         Check.due("used on the last day", x.bestThumb(2, 31), 100);
         Check.script(x, "days 6;visit 0;days 6;visit 0;days 6;visit 0;");
         Check.due("closed", x.bestThumb(0, 50), 0);
-        // Two shops: from 55 grams on customers complain, and a visit costs more than it gains.
-        HonestScales y = Check.setup("bureau 0 0 99 99 50 1 65536;weights 1;shop 0 500 50 5 1000 20 3 0;shop 0 600 50 5 1000 1 0 0;"
-            + "shop 0 500 50 5 1000 20 3 0;");
+        // From 55 grams on customers complain, and a visit costs more than it gains.
+        String three = "bureau 0 0 99 99 50 1 65536;weights 1;shop 0 500 50 5 1000 20 3 0;shop 0 600 50 5 1000 1 0 0;"
+            + "shop 0 500 50 5 1000 20 3 0;";
         for (int days = 1; days <= 100; days += 9) {
             for (int shop = 0; shop < 3; shop++) {
+                HonestScales y = Check.setup(three);
                 Check.due("bestThumb(" + shop + ", " + days + ")", y.bestThumb(shop, days), bestByTrial(y, shop, days));
             }
         }
         Check.due("thumbs that earn the same", Check.setup("bureau 0 0 0 9 1 0 0;weights 1;shop 0 500 50 5 1000 10 0 0;").bestThumb(0, 7), 100);
         Check.due("100 grams are due for a coin", Check.setup("bureau 0 0 0 9 1 0 0;weights 1;shop 0 500 50 5 1000 12 0 0;").bestThumb(0, 7), 85);
         for (int wrong : new int[] {0, -1, 101, Integer.MAX_VALUE, Integer.MIN_VALUE}) {
-            Check.dueThrow("bestThumb(0, " + wrong + ")", Check.ARGUMENT, () -> y.bestThumb(0, wrong));
-            Check.dueNoSuchShop("bestThumb, both wrong", y, shop -> y.bestThumb(shop, wrong));
+            Check.dueThrow("bestThumb(0, " + wrong + ")", Check.ARGUMENT, () -> x.bestThumb(0, wrong));
+            Check.dueNoSuchShop("bestThumb, both wrong", x, shop -> x.bestThumb(shop, wrong));
         }
-        Check.dueNoSuchShop("bestThumb", y, shop -> y.bestThumb(shop, 1));
+        Check.dueNoSuchShop("bestThumb", x, shop -> x.bestThumb(shop, 1));
     }
 
     private static int bestByTrial(HonestScales x, int shop, int days) {

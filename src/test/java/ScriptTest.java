@@ -125,33 +125,33 @@ public final class ScriptTest {
             misplaced(text, "", kinds[i].endsWith("end"));
             text = i < parts.length ? text + parts[i] + " " : text;
         }
-        bad("days 3;;", HonestScales.SYNTAX, 7);
-        bad("visitvisit 0;", HonestScales.SYNTAX, 0);
-        bad("visit", HonestScales.SYNTAX, 5);
-        bad("visit   ", HonestScales.SYNTAX, 8);
-        bad("visit 9 9", HonestScales.RANGE, 6);
-        bad("thumb 0 101", HonestScales.RANGE, 8);
+        Texts.scriptRefused("days 3;;", HonestScales.SYNTAX, 7);
+        Texts.scriptRefused("visitvisit 0;", HonestScales.SYNTAX, 0);
+        Texts.scriptRefused("visit", HonestScales.SYNTAX, 5);
+        Texts.scriptRefused("visit   ", HonestScales.SYNTAX, 8);
+        Texts.scriptRefused("visit 9 9", HonestScales.RANGE, 6);
+        Texts.scriptRefused("thumb 0 101", HonestScales.RANGE, 8);
     }
 
     private static void misplaced(String text, String token, boolean allowed) {
         if (!allowed) {
-            bad(text + token, HonestScales.SYNTAX, text.length());
+            Texts.scriptRefused(text + token, HonestScales.SYNTAX, text.length());
         }
     }
 
     private static void everyNumberHasItsRange() {
         for (String number : new String[] {"0", "101", "00", "4294967297", "18446744073709551617", "99999999999999999999"}) {
-            bad("days " + number + ";", HonestScales.RANGE, 5);
+            Texts.scriptRefused("days " + number + ";", HonestScales.RANGE, 5);
         }
         for (String number : new String[] {"3", "8", "4294967296", "18446744073709551616", "99999999999999999999"}) {
-            bad("visit " + number + ";", HonestScales.RANGE, 6);
-            bad("repair " + number + ";", HonestScales.RANGE, 7);
-            bad("complain " + number + ";", HonestScales.RANGE, 9);
-            bad("open " + number + ";", HonestScales.RANGE, 5);
-            bad("thumb " + number + " 1;", HonestScales.RANGE, 6);
+            Texts.scriptRefused("visit " + number + ";", HonestScales.RANGE, 6);
+            Texts.scriptRefused("repair " + number + ";", HonestScales.RANGE, 7);
+            Texts.scriptRefused("complain " + number + ";", HonestScales.RANGE, 9);
+            Texts.scriptRefused("open " + number + ";", HonestScales.RANGE, 5);
+            Texts.scriptRefused("thumb " + number + " 1;", HonestScales.RANGE, 6);
         }
-        bad("thumb 2 101;", HonestScales.RANGE, 8);
-        bad("thumb 2 4294967296;", HonestScales.RANGE, 8);
+        Texts.scriptRefused("thumb 2 101;", HonestScales.RANGE, 8);
+        Texts.scriptRefused("thumb 2 4294967296;", HonestScales.RANGE, 8);
         HonestScales x = new HonestScales();
         Check.due("the edges", Check.script(x, "days 1;days 100;thumb 2 0;thumb 2 100;"), 4);
         Check.due("day", x.day(), 101);
@@ -163,13 +163,13 @@ public final class ScriptTest {
         HonestScales x = new HonestScales();
         Check.due("twenty commands", Check.script(x, twenty), 20);
         Check.due("day", x.day(), 16);
-        bad(twenty + "days 1;", HonestScales.LIMIT, twenty.length());
-        bad(twenty + "  open", HonestScales.LIMIT, twenty.length() + 2);
-        bad(twenty + "visit 99;", HonestScales.LIMIT, twenty.length());
-        bad(twenty + "shop", HonestScales.SYNTAX, twenty.length());
-        bad(twenty + "1", HonestScales.SYNTAX, twenty.length());
-        bad(twenty + ";", HonestScales.SYNTAX, twenty.length());
-        bad(twenty + "\n", HonestScales.SYNTAX, twenty.length());
+        Texts.scriptRefused(twenty + "days 1;", HonestScales.LIMIT, twenty.length());
+        Texts.scriptRefused(twenty + "  open", HonestScales.LIMIT, twenty.length() + 2);
+        Texts.scriptRefused(twenty + "visit 99;", HonestScales.LIMIT, twenty.length());
+        Texts.scriptRefused(twenty + "shop", HonestScales.SYNTAX, twenty.length());
+        Texts.scriptRefused(twenty + "1", HonestScales.SYNTAX, twenty.length());
+        Texts.scriptRefused(twenty + ";", HonestScales.SYNTAX, twenty.length());
+        Texts.scriptRefused(twenty + "\n", HonestScales.SYNTAX, twenty.length());
     }
 
     private static void shopNumbersFollowTheSetup() {
@@ -181,13 +181,5 @@ public final class ScriptTest {
         x.undo();
         x.undo();
         Check.due("shop 2 is back", Check.script(x, "complain 2;"), 1);
-    }
-
-    private static void bad(String text, int code, int position) {
-        HonestScales x = new HonestScales();
-        Check.feed(x, text);
-        Check.dueThrow("runScript of '" + text + "'", Check.ARGUMENT, x::runScript);
-        Check.due("errorCode of '" + text + "'", x.errorCode(), code);
-        Check.due("errorPosition of '" + text + "'", x.errorPosition(), position);
     }
 }

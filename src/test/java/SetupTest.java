@@ -118,11 +118,11 @@ public final class SetupTest {
         for (int place = 0; place < low.length; place++) {
             for (String number : new String[] {low[place], high[place]}) {
                 String[] parts = row(high, place, number);
-                good(before + word + parts[0] + parts[1] + after);
+                Texts.taken(before + word + parts[0] + parts[1] + after);
             }
             for (String number : outside(low[place], high[place])) {
                 String[] parts = row(low, place, number);
-                bad(before + word + parts[0] + parts[1] + after, HonestScales.RANGE, (before + word + parts[0]).length());
+                Texts.refused(before + word + parts[0] + parts[1] + after, HonestScales.RANGE, (before + word + parts[0]).length());
             }
         }
     }
@@ -170,35 +170,35 @@ public final class SetupTest {
             misplaced(text, "", here.contains("/end/"));
             text = i < tokens.length ? text + tokens[i] + " " : text;
         }
-        good(text);
+        Texts.taken(text);
     }
 
     private static void misplaced(String text, String token, boolean allowed) {
         if (!allowed) {
-            bad(text + token, HonestScales.SYNTAX, text.length());
+            Texts.refused(text + token, HonestScales.SYNTAX, text.length());
         }
     }
 
     private static void limits() {
         String six = HEAD + "weights 1 2 3 4 5 6";
-        good(six + ";" + SHOP);
-        bad(six + " 7;" + SHOP, HonestScales.LIMIT, six.length() + 1);
-        bad(six + " 7", HonestScales.LIMIT, six.length() + 1);
-        bad(six + " 6;", HonestScales.TWICE, six.length() + 1);
-        bad(six + " 0;", HonestScales.RANGE, six.length() + 1);
-        bad(six + " 5001;", HonestScales.RANGE, six.length() + 1);
-        bad(six + " shop", HonestScales.SYNTAX, six.length() + 1);
-        bad(six + " ", HonestScales.SYNTAX, six.length() + 1);
+        Texts.taken(six + ";" + SHOP);
+        Texts.refused(six + " 7;" + SHOP, HonestScales.LIMIT, six.length() + 1);
+        Texts.refused(six + " 7", HonestScales.LIMIT, six.length() + 1);
+        Texts.refused(six + " 6;", HonestScales.TWICE, six.length() + 1);
+        Texts.refused(six + " 0;", HonestScales.RANGE, six.length() + 1);
+        Texts.refused(six + " 5001;", HonestScales.RANGE, six.length() + 1);
+        Texts.refused(six + " shop", HonestScales.SYNTAX, six.length() + 1);
+        Texts.refused(six + " ", HonestScales.SYNTAX, six.length() + 1);
         String eight = HEAD + WEIGHTS + SHOP + SHOP + SHOP + SHOP + SHOP + SHOP + SHOP + SHOP;
-        good(eight);
-        good(eight + "  ");
-        bad(eight + " shop", HonestScales.LIMIT, eight.length() + 1);
-        bad(eight + SHOP, HonestScales.LIMIT, eight.length() + 1);
-        bad(eight + "shop99999;", HonestScales.LIMIT, eight.length());
-        bad(eight + "shops 1", HonestScales.SYNTAX, eight.length());
-        bad(eight + ";", HonestScales.SYNTAX, eight.length());
-        bad(eight + "1", HonestScales.SYNTAX, eight.length());
-        bad(eight + "!", HonestScales.SYNTAX, eight.length());
+        Texts.taken(eight);
+        Texts.taken(eight + "  ");
+        Texts.refused(eight + " shop", HonestScales.LIMIT, eight.length() + 1);
+        Texts.refused(eight + SHOP, HonestScales.LIMIT, eight.length() + 1);
+        Texts.refused(eight + "shop99999;", HonestScales.LIMIT, eight.length());
+        Texts.refused(eight + "shops 1", HonestScales.SYNTAX, eight.length());
+        Texts.refused(eight + ";", HonestScales.SYNTAX, eight.length());
+        Texts.refused(eight + "1", HonestScales.SYNTAX, eight.length());
+        Texts.refused(eight + "!", HonestScales.SYNTAX, eight.length());
         HonestScales x = new HonestScales();
         Check.feed(x, eight);
         Check.due("loadSetup", x.loadSetup(), 8);
@@ -207,44 +207,24 @@ public final class SetupTest {
 
     private static void twice() {
         String text = HEAD + "weights 100 200";
-        bad(text + " 100;", HonestScales.TWICE, text.length() + 1);
-        bad(text + " 0200;", HonestScales.TWICE, text.length() + 1);
-        bad(text + " 200", HonestScales.TWICE, text.length() + 1);
-        bad(text + " 10 0", HonestScales.RANGE, text.length() + 4);
-        good(text + " 20 2000 2;" + SHOP);
+        Texts.refused(text + " 100;", HonestScales.TWICE, text.length() + 1);
+        Texts.refused(text + " 0200;", HonestScales.TWICE, text.length() + 1);
+        Texts.refused(text + " 200", HonestScales.TWICE, text.length() + 1);
+        Texts.refused(text + " 10 0", HonestScales.RANGE, text.length() + 4);
+        Texts.taken(text + " 20 2000 2;" + SHOP);
     }
 
     private static void spacesAndNumbers() {
-        good("bureau0 0 10 10 1 0 0;weights100;shop1 500 50 5 100 1 0 0;");
-        good("   bureau  0   0 10 10 1 0 0  ;  weights   100  ;  shop 1 500 50 5 100 1 0 0  ;   ");
-        good("bureau 0000000000000000000000000000050 000000 010 0010 1 0 0;weights 000005000;" + SHOP);
-        bad("bu reau", HonestScales.SYNTAX, 0);
-        bad("bureauweights", HonestScales.SYNTAX, 0);
-        bad(" Bureau", HonestScales.SYNTAX, 1);
-        bad("bureau 1x", HonestScales.SYNTAX, 8);
-        bad("bureau 51x", HonestScales.RANGE, 7);
-        bad("bureau?", HonestScales.SYNTAX, 6);
-        bad("", HonestScales.SYNTAX, 0);
-        bad("   ", HonestScales.SYNTAX, 3);
-    }
-
-    private static void good(String text) {
-        HonestScales x = new HonestScales();
-        Check.feed(x, text);
-        try {
-            Check.due("loadSetup of '" + text + "'", x.loadSetup(), text.split("shop").length - 1);
-        } catch (IllegalArgumentException e) {
-            Check.due("loadSetup of '" + text + "'", "an error", "none");
-        }
-        Check.due("errorCode of '" + text + "'", x.errorCode(), 0);
-        Check.due("errorPosition of '" + text + "'", x.errorPosition(), HonestScales.NONE);
-    }
-
-    private static void bad(String text, int code, int position) {
-        HonestScales x = new HonestScales();
-        Check.feed(x, text);
-        Check.dueThrow("loadSetup of '" + text + "'", Check.ARGUMENT, x::loadSetup);
-        Check.due("errorCode of '" + text + "'", x.errorCode(), code);
-        Check.due("errorPosition of '" + text + "'", x.errorPosition(), position);
+        Texts.taken("bureau0 0 10 10 1 0 0;weights100;shop1 500 50 5 100 1 0 0;");
+        Texts.taken("   bureau  0   0 10 10 1 0 0  ;  weights   100  ;  shop 1 500 50 5 100 1 0 0  ;   ");
+        Texts.taken("bureau 0000000000000000000000000000050 000000 010 0010 1 0 0;weights 000005000;" + SHOP);
+        Texts.refused("bu reau", HonestScales.SYNTAX, 0);
+        Texts.refused("bureauweights", HonestScales.SYNTAX, 0);
+        Texts.refused(" Bureau", HonestScales.SYNTAX, 1);
+        Texts.refused("bureau 1x", HonestScales.SYNTAX, 8);
+        Texts.refused("bureau 51x", HonestScales.RANGE, 7);
+        Texts.refused("bureau?", HonestScales.SYNTAX, 6);
+        Texts.refused("", HonestScales.SYNTAX, 0);
+        Texts.refused("   ", HonestScales.SYNTAX, 3);
     }
 }
