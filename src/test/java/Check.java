@@ -50,6 +50,17 @@ final class Check {
         System.out.println(about + what + " gave " + got + ", due is " + want.getName());
     }
 
+    /** Runs the tests one by one; a call that throws where an answer is due ends only the test that made it. */
+    static void each(Runnable... tests) {
+        for (Runnable test : tests) {
+            try {
+                test.run();
+            } catch (RuntimeException e) {
+                due("a call", e + " at " + e.getStackTrace()[0], "an answer");
+            }
+        }
+    }
+
     /** For the methods with a shop as their only argument. */
     interface ShopCall {
         Object run(int shop);

@@ -1,15 +1,16 @@
 /** The edges of promises 19 to 27: what is asked about the bureau. */
 final class PromisesOfBureau {
     static void test() {
-        day();
-        weightCount();
-        testWeight();
-        bound();
-        fee();
-        inspectors();
-        seed();
-        bureauCoins();
-        visits();
+        Check.each(
+            PromisesOfBureau::day,
+            PromisesOfBureau::weightCount,
+            PromisesOfBureau::testWeight,
+            PromisesOfBureau::bound,
+            PromisesOfBureau::fee,
+            PromisesOfBureau::inspectors,
+            PromisesOfBureau::seed,
+            PromisesOfBureau::bureauCoins,
+            PromisesOfBureau::visits);
     }
 
     /** Puts an end to the days, the visits and the coins of an object. */

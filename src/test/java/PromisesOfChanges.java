@@ -1,35 +1,36 @@
 /** The edges of promises 8 to 18: the methods that change something. */
 final class PromisesOfChanges {
     static void test() {
-        passDays();
-        passDaysReturns();
-        passDaysRange();
-        visitTwiceADay();
-        visitReturns();
-        visitOfAClosedShop();
-        repairStraightens();
-        repairPrice();
-        repairReturns();
-        repairRefuses();
-        setThumb();
-        setThumbRange();
-        complain();
-        complainRefuses();
-        reopen();
-        reopenRefuses();
-        setInspectors();
-        setFee();
-        undoLatest();
-        undoIsNoChange();
-        undoReturns();
-        undoRefuses();
-        saveInPlace();
-        saveIsNoChange();
-        saveSlots();
-        restore();
-        restoreIsAChange();
-        restoreSlots();
-        restoreRefuses();
+        Check.each(
+            PromisesOfChanges::passDays,
+            PromisesOfChanges::passDaysReturns,
+            PromisesOfChanges::passDaysRange,
+            PromisesOfChanges::visitTwiceADay,
+            PromisesOfChanges::visitReturns,
+            PromisesOfChanges::visitOfAClosedShop,
+            PromisesOfChanges::repairStraightens,
+            PromisesOfChanges::repairPrice,
+            PromisesOfChanges::repairReturns,
+            PromisesOfChanges::repairRefuses,
+            PromisesOfChanges::setThumb,
+            PromisesOfChanges::setThumbRange,
+            PromisesOfChanges::complain,
+            PromisesOfChanges::complainRefuses,
+            PromisesOfChanges::reopen,
+            PromisesOfChanges::reopenRefuses,
+            PromisesOfChanges::setInspectors,
+            PromisesOfChanges::setFee,
+            PromisesOfChanges::undoLatest,
+            PromisesOfChanges::undoIsNoChange,
+            PromisesOfChanges::undoReturns,
+            PromisesOfChanges::undoRefuses,
+            PromisesOfChanges::saveInPlace,
+            PromisesOfChanges::saveIsNoChange,
+            PromisesOfChanges::saveSlots,
+            PromisesOfChanges::restore,
+            PromisesOfChanges::restoreIsAChange,
+            PromisesOfChanges::restoreSlots,
+            PromisesOfChanges::restoreRefuses);
     }
 
     private static void passDays() {

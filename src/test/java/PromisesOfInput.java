@@ -5,25 +5,26 @@ final class PromisesOfInput {
     private static final String SMALL = "bureau 0 0 1 1 1 0 0;weights 1;shop 0 500 50 5 1 0 0 0;";
 
     static void test() {
-        newObject();
-        newObjectHasNoChanges();
-        appendOrder();
-        appendParts();
-        appendLength();
-        appendBeyond500();
-        truncateKeeps();
-        truncateEdges();
-        errorCode();
-        errorPosition();
-        loadSetupReplaces();
-        loadSetupKeeps();
-        loadSetupEmptiesTheBuffer();
-        loadSetupReturns();
-        loadSetupRefuses();
-        runScriptExecutes();
-        runScriptEmptiesTheBuffer();
-        runScriptReturns();
-        runScriptRefuses();
+        Check.each(
+            PromisesOfInput::newObject,
+            PromisesOfInput::newObjectHasNoChanges,
+            PromisesOfInput::appendOrder,
+            PromisesOfInput::appendParts,
+            PromisesOfInput::appendLength,
+            PromisesOfInput::appendBeyond500,
+            PromisesOfInput::truncateKeeps,
+            PromisesOfInput::truncateEdges,
+            PromisesOfInput::errorCode,
+            PromisesOfInput::errorPosition,
+            PromisesOfInput::loadSetupReplaces,
+            PromisesOfInput::loadSetupKeeps,
+            PromisesOfInput::loadSetupEmptiesTheBuffer,
+            PromisesOfInput::loadSetupReturns,
+            PromisesOfInput::loadSetupRefuses,
+            PromisesOfInput::runScriptExecutes,
+            PromisesOfInput::runScriptEmptiesTheBuffer,
+            PromisesOfInput::runScriptReturns,
+            PromisesOfInput::runScriptRefuses);
     }
 
     private static void newObject() {
@@ -116,9 +117,9 @@ final class PromisesOfInput {
             HonestScales x = full();
             x.truncate(length);
             Check.dueThrow("append to " + length, Check.STATE, () -> x.append(0x3f3f3f3f, 0, 0, 0, 0));
-            Check.due("the length stays", x.truncate(length), length);
             int beyond = length + 1;
             Check.dueThrow("no byte was appended", Check.ARGUMENT, () -> x.truncate(beyond));
+            Check.due("the length stays", x.truncate(length), length);
             Check.due("what is in it stays", x.runScript(), 0);
         }
         HonestScales y = full();
@@ -252,6 +253,7 @@ final class PromisesOfInput {
         HonestScales x = new HonestScales();
         x.setInspectors(3);
         Check.script(x, "days 100;complain 0;complain 1;complain 2;thumb 0 99;");
+        Check.due("another state", Check.state(x).equals(Check.state(new HonestScales())), false);
         Check.feed(x, FIRST);
         x.loadSetup();
         Check.due("nothing of the earlier state is left", Check.state(x), Check.state(new HonestScales()));

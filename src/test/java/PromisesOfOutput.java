@@ -1,13 +1,14 @@
 /** The edges of promises 61 to 65: sums over all shops, and the output text. */
 final class PromisesOfOutput {
     static void test() {
-        coinError();
-        meanExcess();
-        trueShare();
-        writeShop();
-        writeShopReturns();
-        outputByte();
-        noOutputByte();
+        Check.each(
+            PromisesOfOutput::coinError,
+            PromisesOfOutput::meanExcess,
+            PromisesOfOutput::trueShare,
+            PromisesOfOutput::writeShop,
+            PromisesOfOutput::writeShopReturns,
+            PromisesOfOutput::outputByte,
+            PromisesOfOutput::noOutputByte);
     }
 
     private static void coinError() {
@@ -37,6 +38,15 @@ final class PromisesOfOutput {
         }
         x.restoreSnapshot(0);
         Check.due("restored", x.coinError(), 0);
+        String[] fined = {"5 501 50 5 1 0 0 0", "5 501 50 5 1 0 0 0"};
+        HonestScales y = Make.quiet(fined);
+        Check.script(y, "visit 0;visit 1;");
+        Check.feed(y, Make.text(Make.QUIET, "1", "7 501 50 5 1 0 0 0"));
+        y.loadSetup();
+        Check.due("one shop after two that were fined", y.coinError(), 0);
+        HonestScales z = Make.quiet(Make.plain(8));
+        Check.script(z, "days 1;visit 0;visit 7;");
+        Check.due("eight shops", z.coinError(), 0);
     }
 
     private static void meanExcess() {

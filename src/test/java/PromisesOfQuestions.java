@@ -1,23 +1,24 @@
 /** The edges of promises 49 to 60: questions, after which nothing has changed. ShopArguments has those of the argument. */
 final class PromisesOfQuestions {
     static void test() {
-        usesThumb();
-        fineIfVisited();
-        whyFail();
-        nextGain();
-        nextVisited();
-        noNextVisit();
-        daysUntilFalse();
-        neverFalse();
-        purseAfter();
-        bestThumb();
-        bestOfEquals();
-        mostFined();
-        ounces();
-        expiringStamps();
-        daysUntilClosed();
-        notClosedInTime();
-        nothingChanges();
+        Check.each(
+            PromisesOfQuestions::usesThumb,
+            PromisesOfQuestions::fineIfVisited,
+            PromisesOfQuestions::whyFail,
+            PromisesOfQuestions::nextGain,
+            PromisesOfQuestions::nextVisited,
+            PromisesOfQuestions::noNextVisit,
+            PromisesOfQuestions::daysUntilFalse,
+            PromisesOfQuestions::neverFalse,
+            PromisesOfQuestions::purseAfter,
+            PromisesOfQuestions::bestThumb,
+            PromisesOfQuestions::bestOfEquals,
+            PromisesOfQuestions::mostFined,
+            PromisesOfQuestions::ounces,
+            PromisesOfQuestions::expiringStamps,
+            PromisesOfQuestions::daysUntilClosed,
+            PromisesOfQuestions::notClosedInTime,
+            PromisesOfQuestions::nothingChanges);
     }
 
     private static void usesThumb() {
@@ -120,7 +121,6 @@ final class PromisesOfQuestions {
         Check.due("the most complaints", x.nextVisited(), 3);
         x.visit(3);
         Check.due("its complaints are gone", x.nextVisited(), 1);
-        Sentence.of(53, "Returns index of a shop;");
         // 51 grams on the next day, where there are 50 now; and a thumb that is used again.
         HonestScales y = Make.bureau("0 0 1 99 1 1 0", "1", Make.PLAIN, Make.PLAIN, Make.PLAIN, "0 550 50 6 1000 1 0 0");
         Check.due("a complaint of the next day, by its drift", y.nextVisited(), 3);
@@ -133,6 +133,13 @@ final class PromisesOfQuestions {
         Check.due("a complaint of the next day, by its thumb", z.nextVisited(), 1);
         z.passDays(1);
         Check.due("so it was", z.latestVisit(1), 2);
+        Sentence.of(53, "Returns index of a shop;");
+        HonestScales eight = Make.quiet(Make.plain(8));
+        eight.setInspectors(1);
+        for (int shop = 7; shop >= 0; shop--) {
+            eight.complain(shop);
+            Check.due("the smallest of those with a complaint", eight.nextVisited(), shop);
+        }
         HonestScales all = Make.bureau("0 0 1 99 1 1 0", "1", Make.plain(1));
         all.visit(0);
         Check.due("visited today, and tomorrow", all.nextVisited(), 0);
@@ -158,6 +165,9 @@ final class PromisesOfQuestions {
         Sentence.of(54, "Returns the number of days until a scale is not true, if only its drift changes it.");
         HonestScales x = Make.bureau("10 0 1 1 1 3 0", "1", "0 500 50 6 1 0 0 0", "0 510 50 6 1 0 0 0", "0 509 50 6 1 0 0 0", "0 510 50 0 1 0 0 0", "0 505 50 3 1 0 0 0");
         Check.due("daysUntilFalse", x.daysUntilFalse(0) + "/" + x.daysUntilFalse(1) + "/" + x.daysUntilFalse(2) + "/" + x.daysUntilFalse(3) + "/" + x.daysUntilFalse(4), "11/1/2/5/8");
+        HonestScales closed = Make.bureau("10 0 1 1 1 0 0", "1", "0 500 50 6 1 0 0 0");
+        Make.close(closed, 0);
+        Check.due("a closed shop's scale", closed.offset(0) + "/" + closed.daysUntilFalse(0), "6/5");
         Sentence.of(54, "Returns the number of days, 0 if it is not true now;");
         HonestScales y = Make.bureau("10 0 1 1 1 0 0", "1", "0 511 50 5 1 0 0 0", "0 511 50 4 1 0 0 0", "0 0 50 10 1 0 0 0");
         Check.due("not true now", y.daysUntilFalse(0) + "/" + y.daysUntilFalse(1) + "/" + y.daysUntilFalse(2), "0/0/0");
@@ -165,9 +175,6 @@ final class PromisesOfQuestions {
         HonestScales most = Make.bureau("50 50 1 1 1 0 0", "5000", "0 200 50 6 1 0 0 0", "0 800 50 4 1 0 0 0");
         Check.due("601 days", most.daysUntilFalse(0) + "/" + most.daysUntilFalse(1), "601/601");
         Check.due("nothing has drifted", most.offset(0) + "/" + most.offset(1), "-300/300");
-        HonestScales closed = Make.bureau("10 0 1 1 1 0 0", "1", "0 500 50 6 1 0 0 0");
-        Make.close(closed, 0);
-        Check.due("a closed shop's scale", closed.offset(0) + "/" + closed.daysUntilFalse(0), "6/5");
     }
 
     private static void neverFalse() {
@@ -249,6 +256,11 @@ final class PromisesOfQuestions {
         Check.due("closed", closed.bestThumb(0, 100), 0);
         HonestScales x = Make.bureau("0 0 1 1 50 0 0", "1", "0 500 50 5 1000 20 7 0", "9 500 50 5 1000 20 7 0");
         Check.due("of two shops", x.bestThumb(1, 3) + "/" + x.thumb(0) + "/" + x.thumb(1), "100/7/7");
+        // From 51 grams on shop 1 is visited for its complaints, as long as shop 0 has none; without complaints, shop 65536 % 4 = 0 is.
+        HonestScales y = Make.bureau("0 0 99 99 50 1 65536", "1", "0 500 50 5 1000 20 0 0", "0 500 50 5 1000 20 0 0", Make.PLAIN, Make.PLAIN);
+        Check.due("the other thumbs stay", y.bestThumb(1, 1), 50);
+        y.setThumb(0, 100);
+        Check.due("with complaints about shop 0", y.bestThumb(1, 1), 100);
     }
 
     private static void bestDue(String sales, int due) {
@@ -329,6 +341,11 @@ final class PromisesOfQuestions {
         Check.due("two days", x.daysUntilClosed(0), 2);
         x.passDays(1);
         Check.due("one day", x.daysUntilClosed(0), 1);
+        // The inspector goes for the complaints about shop 1, each day; a second one has time for shop 0.
+        HonestScales y = Make.bureau("0 0 1 99 1 1 0", "1", "0 500 50 6 1 0 0 0", "0 500 50 5 1000 1 100 0");
+        Check.due("never visited", y.daysUntilClosed(0), HonestScales.NONE);
+        y.setInspectors(2);
+        Check.due("with two inspectors", y.daysUntilClosed(0), 3);
         Sentence.of(60, "Returns the number of days; 0 if it is closed;");
         x.passDays(1);
         Check.due("closed", x.daysUntilClosed(0) + "/" + x.isOpen(0), "0/false");

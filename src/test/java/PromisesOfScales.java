@@ -1,16 +1,17 @@
 /** The edges of promises 28 to 37: what is asked about the scales. ShopArguments has those of the argument. */
 final class PromisesOfScales {
     static void test() {
-        offset();
-        slope();
-        drift();
-        reading();
-        excess();
-        totalExcess();
-        isTrue();
-        worstWeight();
-        stampedUntil();
-        isStamped();
+        Check.each(
+            PromisesOfScales::offset,
+            PromisesOfScales::slope,
+            PromisesOfScales::drift,
+            PromisesOfScales::reading,
+            PromisesOfScales::excess,
+            PromisesOfScales::totalExcess,
+            PromisesOfScales::isTrue,
+            PromisesOfScales::worstWeight,
+            PromisesOfScales::stampedUntil,
+            PromisesOfScales::isStamped);
     }
 
     private static void offset() {

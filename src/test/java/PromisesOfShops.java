@@ -1,18 +1,19 @@
 /** The edges of promises 38 to 48: what is asked about the shops. ShopArguments has those of the argument. */
 final class PromisesOfShops {
     static void test() {
-        shopCount();
-        openShops();
-        isOpen();
-        purse();
-        thumb();
-        complaints();
-        failures();
-        latestVisit();
-        finesOf();
-        gainsOf();
-        shopAtRank();
-        shopAtNoRank();
+        Check.each(
+            PromisesOfShops::shopCount,
+            PromisesOfShops::openShops,
+            PromisesOfShops::isOpen,
+            PromisesOfShops::purse,
+            PromisesOfShops::thumb,
+            PromisesOfShops::complaints,
+            PromisesOfShops::failures,
+            PromisesOfShops::latestVisit,
+            PromisesOfShops::finesOf,
+            PromisesOfShops::gainsOf,
+            PromisesOfShops::shopAtRank,
+            PromisesOfShops::shopAtNoRank);
     }
 
     private static void shopCount() {

@@ -5,7 +5,7 @@ final class ShopArguments {
         method(10, "repair", HonestScales::repair);
         method(11, "setThumb", (x, shop) -> x.setThumb(shop, 1));
         method(12, "complain", HonestScales::complain);
-        reopen();
+        Check.each(ShopArguments::reopen);
         method(28, "offset", HonestScales::offset);
         method(29, "slope", HonestScales::slope);
         method(30, "drift", HonestScales::drift);
@@ -34,7 +34,7 @@ final class ShopArguments {
         method(58, "ounces", HonestScales::ounces);
         method(60, "daysUntilClosed", HonestScales::daysUntilClosed);
         method(64, "writeShop", HonestScales::writeShop);
-        wrongShopsComeFirst();
+        Check.each(ShopArguments::wrongShopsComeFirst);
     }
 
     private interface ShopMethod {
@@ -42,12 +42,19 @@ final class ShopArguments {
     }
 
     private static void method(int promise, String name, ShopMethod method) {
+        Check.each(() -> shopsThatExist(promise, name, method), () -> shopsThatDoNot(promise, name, method));
+    }
+
+    private static void shopsThatExist(int promise, String name, ShopMethod method) {
         Sentence.of(promise, "- `shop`: index of a shop");
         for (int count : new int[] {1, 8}) {
             HonestScales x = Make.quiet(different(count));
             taken(name, method, x, 0);
             taken(name, method, x, count - 1);
         }
+    }
+
+    private static void shopsThatDoNot(int promise, String name, ShopMethod method) {
         Sentence.of(promise, "Throws `IndexOutOfBoundsException` if the shop does not exist");
         for (int count : new int[] {1, 3, 8}) {
             HonestScales x = Make.quiet(different(count));

@@ -3,15 +3,16 @@ final class TermsOfDays {
     private static final int SEED_BEFORE_0 = 45438;
 
     static void test() {
-        dayGrowsByOne();
-        offsetsStayWithin();
-        salesInTheirOrder();
-        asManyVisitsAsInspectors();
-        whoCanBeVisited();
-        mostComplaintsFirst();
-        theSeed();
-        nobodyCanBeVisited();
-        fiveHundredAndTwelveCalls();
+        Check.each(
+            TermsOfDays::dayGrowsByOne,
+            TermsOfDays::offsetsStayWithin,
+            TermsOfDays::salesInTheirOrder,
+            TermsOfDays::asManyVisitsAsInspectors,
+            TermsOfDays::whoCanBeVisited,
+            TermsOfDays::mostComplaintsFirst,
+            TermsOfDays::theSeed,
+            TermsOfDays::nobodyCanBeVisited,
+            TermsOfDays::fiveHundredAndTwelveCalls);
     }
 
     private static void dayGrowsByOne() {
@@ -148,6 +149,11 @@ final class TermsOfDays {
         z.setInspectors(1);
         z.passDays(1);
         Check.due("shop 2 is closed: shop 3 next", z.latestVisit(3), 7);
+        HonestScales w = Make.bureau("0 0 1 1 1 0 1", "1", Make.plain(4));
+        Make.close(w, 3);
+        w.setInspectors(1);
+        w.passDays(1);
+        Check.due("149 % 4 is 1: closed shops are counted too", w.latestVisit(1), 7);
     }
 
     private static void seedDue(int seed, int due) {
@@ -173,7 +179,7 @@ final class TermsOfDays {
         Check.due("visited for its complaint", z.passDays(1) + "/" + z.seed(), "1/0");
     }
 
-    /** About the most days that 512 calls reach: 8 for the setup, and 9 for each 2000 days. */
+    /** About the most days that 512 calls reach: 8 calls for the setup, 9 for each 2000 days, and 18 for the questions. */
     private static void fiveHundredAndTwelveCalls() {
         Sentence.of("What it is", "An object is used for at most 512 calls after it has been made; what later calls answer is free.");
         HonestScales x = Make.bureau("0 0 99 99 50 0 0", "1", "9999 1000 100 10 5000 50 100 30", "0 0 0 0 5000 50 0 30");
@@ -192,6 +198,11 @@ final class TermsOfDays {
         Check.due("gains", x.gainsOf(0) + "/" + x.gainsOf(1), passed * 2125 + "/" + -passed * 1875);
         Check.due("complaints", x.complaints(0) + "/" + x.complaints(1), passed + "/0");
         Check.due("coinError", x.coinError(), 0);
+        for (int left = 7; left >= 0; left--) {
+            Check.due("undo", x.undo(), left);
+        }
+        Check.due("the 511th call", x.day(), passed - 8 * 2000);
+        Check.due("the 512th call", x.purse(0), 9999 + (passed - 8 * 2000) * 2125);
     }
 
     private TermsOfDays() {

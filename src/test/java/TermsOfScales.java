@@ -1,17 +1,18 @@
 /** The edges in "Terms" of shops, scales, bounds and test weights. */
 final class TermsOfScales {
     static void test() {
-        oneToEightShops();
-        rangesOfAScale();
-        errorForAWeight();
-        readingOfAWeight();
-        divisionsRoundTowardsZero();
-        baseAndRate();
-        boundForAWeight();
-        excessIsAtLeastZero();
-        oneToSixWeights();
-        trueForAllWeights();
-        totalOfAllWeights();
+        Check.each(
+            TermsOfScales::oneToEightShops,
+            TermsOfScales::rangesOfAScale,
+            TermsOfScales::errorForAWeight,
+            TermsOfScales::readingOfAWeight,
+            TermsOfScales::divisionsRoundTowardsZero,
+            TermsOfScales::baseAndRate,
+            TermsOfScales::boundForAWeight,
+            TermsOfScales::excessIsAtLeastZero,
+            TermsOfScales::oneToSixWeights,
+            TermsOfScales::trueForAllWeights,
+            TermsOfScales::totalOfAllWeights);
     }
 
     private static void oneToEightShops() {

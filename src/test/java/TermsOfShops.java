@@ -4,23 +4,24 @@ final class TermsOfShops {
     private static final String SELLER = "0 500 50 5 1000 20 7 ";
 
     static void test() {
-        rangesOfAShop();
-        numbersOfAShop();
-        openOrClosed();
-        atTheBeginning();
-        lastDayOfTheStamp();
-        cautionOfAThumb();
-        salesOfOpenShops();
-        falseGrams();
-        gainOfTheDay();
-        negativeGain();
-        complaintsBySales();
-        visitSetsDayAndComplaints();
-        reasonsToFail();
-        fines();
-        ounces();
-        afterTheFine();
-        thirdFailure();
+        Check.each(
+            TermsOfShops::rangesOfAShop,
+            TermsOfShops::numbersOfAShop,
+            TermsOfShops::openOrClosed,
+            TermsOfShops::atTheBeginning,
+            TermsOfShops::lastDayOfTheStamp,
+            TermsOfShops::cautionOfAThumb,
+            TermsOfShops::salesOfOpenShops,
+            TermsOfShops::falseGrams,
+            TermsOfShops::gainOfTheDay,
+            TermsOfShops::negativeGain,
+            TermsOfShops::complaintsBySales,
+            TermsOfShops::visitSetsDayAndComplaints,
+            TermsOfShops::reasonsToFail,
+            TermsOfShops::fines,
+            TermsOfShops::ounces,
+            TermsOfShops::afterTheFine,
+            TermsOfShops::thirdFailure);
     }
 
     private static void rangesOfAShop() {
@@ -71,7 +72,9 @@ final class TermsOfShops {
         }
         HonestScales again = Make.closed(1, 0);
         again.reopen(0);
-        again.complain(0);
+        Check.script(again, "days 2;visit 0;complain 0;");
+        // A question about the days to come must leave nothing of them to the next setup.
+        again.purseAfter(0, 3);
         Check.feed(again, Make.text(Make.QUIET, "1", Make.PLAIN));
         again.loadSetup();
         Check.due("after another setup", again.isOpen(0) + "/" + again.latestVisit(0) + "/" + again.complaints(0) + "/" + again.failures(0)

@@ -1,3 +1,6 @@
+import java.util.ArrayList;
+import java.util.List;
+
 /** The edges in "Terms" of tokens, the grammar, errors and the execution of scripts. */
 final class TermsOfTexts {
     private static final String HEAD = "bureau 0 0 1 1 1 0 0;";
@@ -7,28 +10,29 @@ final class TermsOfTexts {
     private static final String TWENTY = "complain 0;".repeat(20);
 
     static void test() {
-        bufferHoldsBytes();
-        tokens();
-        spaces();
-        wordsAndNumbersTouch();
-        grammarOfSetups();
-        grammarOfAShop();
-        grammarOfScripts();
-        grammarOfCommands();
-        rangesGivenAbove();
-        rangesGivenHere();
-        firstTokenWithAnError();
-        positionOfAToken();
-        positionOfTheEnd();
-        smallestCode();
-        syntaxErrors();
-        rangeErrors();
-        weightsNamedTwice();
-        limits();
-        constants();
-        scriptsAreExecuted();
-        commandsAreMethods();
-        executionEndsBefore();
+        Check.each(
+            TermsOfTexts::bufferHoldsBytes,
+            TermsOfTexts::tokens,
+            TermsOfTexts::spaces,
+            TermsOfTexts::wordsAndNumbersTouch,
+            TermsOfTexts::grammarOfSetups,
+            TermsOfTexts::grammarOfAShop,
+            TermsOfTexts::grammarOfScripts,
+            TermsOfTexts::grammarOfCommands,
+            TermsOfTexts::rangesGivenAbove,
+            TermsOfTexts::rangesGivenHere,
+            TermsOfTexts::firstTokenWithAnError,
+            TermsOfTexts::positionOfAToken,
+            TermsOfTexts::positionOfTheEnd,
+            TermsOfTexts::smallestCode,
+            TermsOfTexts::syntaxErrors,
+            TermsOfTexts::rangeErrors,
+            TermsOfTexts::weightsNamedTwice,
+            TermsOfTexts::limits,
+            TermsOfTexts::constants,
+            TermsOfTexts::scriptsAreExecuted,
+            TermsOfTexts::commandsAreMethods,
+            TermsOfTexts::executionEndsBefore);
     }
 
     private static void bufferHoldsBytes() {
@@ -49,6 +53,7 @@ final class TermsOfTexts {
                 Texts.scriptRefused("complain" + (char) one + " 0;", HonestScales.SYNTAX, 8);
                 Texts.scriptRefused("complain 0" + (char) one + ";", HonestScales.SYNTAX, 10);
                 Texts.scriptRefused("complain 0;" + (char) one, HonestScales.SYNTAX, 11);
+                Texts.scriptRefused("days" + (char) one + "1;", HonestScales.SYNTAX, 4);
             }
         }
     }
@@ -114,6 +119,21 @@ final class TermsOfTexts {
         Texts.refused(HEAD + WEIGHTS + SHOP + ";", HonestScales.SYNTAX, 55);
         Texts.refused(HEAD + WEIGHTS + SHOP + WEIGHTS, HonestScales.SYNTAX, 55);
         Texts.refused(HEAD + WEIGHTS + SHOP + "5", HonestScales.SYNTAX, 55);
+        for (String other : similar("bureau")) {
+            Texts.refused(other + HEAD.substring(6) + WEIGHTS + SHOP, HonestScales.SYNTAX, 0);
+        }
+        for (String other : similar("weights")) {
+            Texts.refused(HEAD + other + " 1;" + SHOP, HonestScales.SYNTAX, 21);
+        }
+    }
+
+    /** The words that differ from a word in a letter, or have one more or one less. */
+    private static List<String> similar(String word) {
+        List<String> words = new ArrayList<>(List.of(word + "s", "a" + word, word.substring(1), word.substring(0, word.length() - 1)));
+        for (int i = 0; i < word.length(); i++) {
+            words.add(word.substring(0, i) + (word.charAt(i) == 'z' ? 'a' : 'z') + word.substring(i + 1));
+        }
+        return words;
     }
 
     private static void grammarOfAShop() {
@@ -125,6 +145,10 @@ final class TermsOfTexts {
         Texts.refused(before + "shop shop", HonestScales.SYNTAX, 36);
         Texts.refused(before + "shop 0 500 50 5 1 0 0 0 shop", HonestScales.SYNTAX, 55);
         Texts.refused(before + "0 500 50 5 1 0 0 0;", HonestScales.SYNTAX, 31);
+        for (String other : similar("shop")) {
+            Texts.refused(before + other + " 0 500 50 5 1 0 0 0;", HonestScales.SYNTAX, 31);
+            Texts.refused(before + SHOP + other + " 0 500 50 5 1 0 0 0;", HonestScales.SYNTAX, 55);
+        }
         HonestScales x = Texts.taken(HEAD + WEIGHTS + "shop 11 522 53 9 1000 50 77 30;");
         Check.due("numbers", x.purse(0) + "/" + x.offset(0) + "/" + x.slope(0) + "/" + x.drift(0) + "/" + x.thumb(0), "11/22/3/4/77");
         // 50 sales of 22 + 4 + 3 + 77 grams at a price of 1.
@@ -157,6 +181,11 @@ final class TermsOfTexts {
         Texts.scriptRefused("thumb;", HonestScales.SYNTAX, 5);
         Texts.scriptRefused("thumb 0;", HonestScales.SYNTAX, 7);
         Texts.scriptRefused("thumb 0 0 0;", HonestScales.SYNTAX, 10);
+        for (String verb : new String[] {"days", "visit", "repair", "thumb", "complain", "open"}) {
+            for (String other : similar(verb)) {
+                Texts.scriptRefused(other + " 1;", HonestScales.SYNTAX, 0);
+            }
+        }
         for (String other : new String[] {"reopen", "passdays", "settingthumb", "undo", "shop", "bureau", "weights", "day", "o"}) {
             Texts.scriptRefused(other + " 0;", HonestScales.SYNTAX, 0);
         }

@@ -8,14 +8,15 @@ final class TermsOfUndo {
     }
 
     static void test() {
-        whatIsUndoable();
-        scriptsAreOneChange();
-        eightChanges();
-        wholeState();
-        exceptionsChangeNothing();
-        missingShopsAndWeights();
-        otherArguments();
-        exceptionListedFirst();
+        Check.each(
+            TermsOfUndo::whatIsUndoable,
+            TermsOfUndo::scriptsAreOneChange,
+            TermsOfUndo::eightChanges,
+            TermsOfUndo::wholeState,
+            TermsOfUndo::exceptionsChangeNothing,
+            TermsOfUndo::missingShopsAndWeights,
+            TermsOfUndo::otherArguments,
+            TermsOfUndo::exceptionListedFirst);
     }
 
     /** Shop 1 is closed, shop 0 has coins and a thumb of 20, and there is a snapshot in slot 0. */
